@@ -283,6 +283,9 @@ public final class PromiseTest {
         due("6 and above", x.remove(0, 1), 1);
         due("6 inodes", x.count(1), 1);
         due("6 not a directory any more", x.remove(1, 2), BAD);
+        x.make(0, 1, 1);
+        x.make(0, 2, 1);
+        due("6 entries of its own alone", x.remove(0, 1), 1);
         BlockMover y = twoFiles();
         due("6 with blocks", y.remove(0, 1), 1);
         due("6 size stays", y.inode(1, 1), 2);
@@ -767,6 +770,11 @@ public final class PromiseTest {
             due("20 deep", deep.make(d, 50, 1), d + 1);
         }
         due("20 eleven deep", deep.tree(), treeOf(deep));
+        BlockMover wide = new BlockMover();
+        for (int n = 1; n <= 8; n++) {
+            due("20 wide", wide.make(0, 100 - 11 * n, 2), n);
+        }
+        due("20 eight entries", wide.tree(), treeOf(wide));
     }
 
     private static void treeWhileDown() {
