@@ -81,7 +81,6 @@ public final class BlockMover {
         if (i == NONE || entry == NONE) {
             return FULL;
         }
-        disk.begin();
         disk.write(inodeAt(i, SIZE), 0);
         for (int p = 0; p < PLACES; p++) {
             disk.write(placeAt(i, p), 0);
@@ -103,7 +102,6 @@ public final class BlockMover {
         if (size >= PLACES || block == NONE) {
             return FULL;
         }
-        disk.begin();
         disk.write(dataAt(block, 0), a);
         disk.write(dataAt(block, 1), b);
         disk.write(dataAt(block, 2), c);
@@ -119,7 +117,6 @@ public final class BlockMover {
         if (disk.down) {
             return DOWN;
         }
-        disk.begin();
         disk.write(dataAt(placeOf(file, p), k), v);
         return answerOfAct(1);
     }
@@ -139,7 +136,6 @@ public final class BlockMover {
         if (kindOf(i) == DIRECTORY && entriesOf(i) > 0) {
             return NO;
         }
-        disk.begin();
         disk.write(placeAt(directory, entry), 0);
         disk.write(inodeAt(i, KIND), 0);
         return answerOfAct(i);
@@ -167,7 +163,6 @@ public final class BlockMover {
         if (isWithin(to, i)) {
             return NO;
         }
-        disk.begin();
         disk.write(placeAt(to, entry), entryOf(i, other));
         disk.write(placeAt(directory, from), 0);
         return answerOfAct(i);
@@ -184,7 +179,6 @@ public final class BlockMover {
         if (found == FULL) {
             return FULL;
         }
-        disk.begin();
         disk.write(recordAt(RECORD_INODE), next.inode);
         disk.write(recordAt(RECORD_PLACE), next.place);
         disk.write(recordAt(RECORD_BLOCK), next.to);
@@ -196,7 +190,7 @@ public final class BlockMover {
 
     public int restart() {
         int before = disk.writes;
-        disk.begin();
+        disk.beginRestart();
         finishRecordedMove();
         for (int round = 0; round < MOST_ROUNDS; round++) {
             int atStart = disk.writes;
@@ -698,8 +692,8 @@ public final class BlockMover {
             return at >= 0 && at < words.length ? words[at] : 0;
         }
 
-        /** A restart is begun while the disk is down, so a failure is told apart from being down. */
-        void begin() {
+        /** A restart is begun while the disk is down, so a failure in it is told apart from the one before. */
+        void beginRestart() {
             failed = false;
         }
 

@@ -2,12 +2,14 @@ import java.util.Random;
 
 /** Runs of 512 calls from fixed seeds, each answer compared with the model's. */
 public final class RandomRunsTest {
-    private static final int RUNS = 400;
-    private static final int CALLS = 512;
+    private static final int RUNS = 1000;
+    /** No round makes more calls than this, so that none is begun that could go beyond the last one. */
+    private static final int MOST_CALLS_OF_A_ROUND = 6;
+    private static final int ROUNDS_BETWEEN_ALL = 8;
     private static final Check check = new Check();
 
     private final Random random;
-    private final BlockMover x = new BlockMover();
+    private final Volume x = new Volume();
     private final Model m = new Model();
     /** How often a number may be one that is not as told: one in so many. */
     private final int wrongOneIn;
@@ -24,8 +26,8 @@ public final class RandomRunsTest {
     public static void main(String[] args) {
         for (long seed = 0; seed < RUNS; seed++) {
             RandomRunsTest run = new RandomRunsTest(seed);
-            for (int n = 0; n < CALLS; n++) {
-                run.call("seed " + seed + ", call " + n + ": ");
+            for (int n = 0; run.x.callsLeft() >= MOST_CALLS_OF_A_ROUND; n++) {
+                run.round("seed " + seed + ", round " + n + ": ", n % ROUNDS_BETWEEN_ALL == 0);
             }
         }
         check.end();
@@ -52,7 +54,7 @@ public final class RandomRunsTest {
         return number(1, random.nextInt(20) == 0 ? 99 : names);
     }
 
-    private void call(String where) {
+    private void round(String where, boolean all) {
         if (m.isDown() == 1 && random.nextInt(4) == 0) {
             check.due(where + "restart", x.restart(), m.restart());
         } else if (random.nextInt(cutOneIn) == 0) {
@@ -64,9 +66,11 @@ public final class RandomRunsTest {
             question(where);
         }
         check.due(where + "digest", x.digest(), m.digest());
-        check.due(where + "tree", x.tree(), m.tree());
-        check.due(where + "writes", x.count(2), m.count(2));
-        check.due(where + "moves", x.count(3), m.count(3));
+        if (all) {
+            check.due(where + "tree", x.tree(), m.tree());
+            check.due(where + "writes", x.count(2), m.count(2));
+            check.due(where + "moves", x.count(3), m.count(3));
+        }
     }
 
     private void act(String where) {
