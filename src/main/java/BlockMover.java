@@ -98,7 +98,7 @@ public final class BlockMover {
             return DOWN;
         }
         int size = sizeOf(file);
-        int block = leastFreeBlock();
+        int block = leastFree(usedBlocks());
         if (size >= PLACES || block == NONE) {
             return FULL;
         }
@@ -469,20 +469,22 @@ public final class BlockMover {
         return used;
     }
 
-    private int leastFreeBlock() {
-        long used = usedBlocks();
+    private static boolean isUsed(long used, int block) {
+        return (used >> block & 1) == 1;
+    }
+
+    private static int leastFree(long used) {
         for (int block = 0; block < BLOCKS; block++) {
-            if ((used >> block & 1) == 0) {
+            if (!isUsed(used, block)) {
                 return block;
             }
         }
         return NONE;
     }
 
-    private int greatestFreeBlock() {
-        long used = usedBlocks();
+    private static int greatestFree(long used) {
         for (int block = BLOCKS - 1; block >= 0; block--) {
-            if ((used >> block & 1) == 0) {
+            if (!isUsed(used, block)) {
                 return block;
             }
         }
@@ -507,11 +509,12 @@ public final class BlockMover {
     }
 
     private int chooseMove(int i, int p, int goal) {
-        if ((usedBlocks() >> goal & 1) == 0) {
+        long used = usedBlocks();
+        if (!isUsed(used, goal)) {
             next.set(i, p, goal);
             return READY;
         }
-        int free = greatestFreeBlock();
+        int free = greatestFree(used);
         return free == NONE ? FULL : chooseMoveAway(goal, free);
     }
 

@@ -12,8 +12,10 @@ public final class FaceTest {
         "int plan(int)", "int put(int,int,int,long)", "int read(int,int,int)", "int record(int)",
         "int remove(int,int)", "int rename(int,int,int,int)", "int restart()", "int runs(int)",
         "int step()", "long asked()", "long digest()", "long tree()"};
+    private static final String CONSTANT = "public static final int ";
     private static final String[] CONSTANTS = {
-        "BAD=-1", "DOWN=-2", "NONE=-3", "TAKEN=-4", "FULL=-5", "NO=-6"};
+        CONSTANT + "BAD=-1", CONSTANT + "DOWN=-2", CONSTANT + "NONE=-3",
+        CONSTANT + "TAKEN=-4", CONSTANT + "FULL=-5", CONSTANT + "NO=-6"};
 
     private FaceTest() {
     }
@@ -21,8 +23,8 @@ public final class FaceTest {
     public static void main(String[] args) throws IllegalAccessException {
         Check check = new Check();
         compare(check, "methods", methods(check), Set.of(METHODS));
-        compare(check, "constants", constants(), Set.of(CONSTANTS));
-        check.due("final", Modifier.isFinal(BlockMover.class.getModifiers()) ? 1 : 0, 1);
+        compare(check, "fields", fields(), Set.of(CONSTANTS));
+        check.due("public final", BlockMover.class.getModifiers(), Modifier.PUBLIC | Modifier.FINAL);
         check.due("constructors", BlockMover.class.getDeclaredConstructors().length, 1);
         check.due("public constructors", BlockMover.class.getConstructors().length, 1);
         check.end();
@@ -45,11 +47,12 @@ public final class FaceTest {
         return found;
     }
 
-    private static Set<String> constants() throws IllegalAccessException {
+    private static Set<String> fields() throws IllegalAccessException {
         Set<String> found = new TreeSet<>();
         for (Field f : BlockMover.class.getDeclaredFields()) {
             if (!Modifier.isPrivate(f.getModifiers())) {
-                found.add(f.getName() + "=" + f.get(null));
+                Object value = Modifier.isStatic(f.getModifiers()) ? f.get(null) : "";
+                found.add(f.toString().replace("BlockMover.", "") + "=" + value);
             }
         }
         return found;

@@ -164,6 +164,61 @@ public final class Promise09RestartTest extends TestKit {
         return v;
     }
 
+    static void double_thrice_theFirstStays() {
+        writes(Promise09RestartTest::file3ThreeTimes, Volume::restart, 2,
+            write(Words.place(1, 7), 0), write(Words.place(2, 0), 0));
+    }
+
+    /** FILE 3 stands in THE ROOT, in DIRECTORY 1 and in DIRECTORY 2. */
+    private static Volume file3ThreeTimes() {
+        Volume v = Volumes.twoDirectories();
+        v.lay(Words.place(0, 5), 350);
+        v.lay(Words.place(1, 7), 301);
+        return v;
+    }
+
+    // "2 ENTRIES, by DIRECTORIES that are INODES of that KIND, by numbers, then by PLACES: one whose INODE is
+    //  of KIND 0 .. : 0"
+
+    static void kind0_itsEntryIs0() {
+        writes(Promise09RestartTest::file1OfKind0, Volume::restart, 1, write(Words.place(0, 0), 0));
+    }
+
+    private static Volume file1OfKind0() {
+        Volume v = Volumes.twoFiles();
+        v.lay(Words.kind(1), 0);
+        return v;
+    }
+
+    static void kind0_allItsEntries_byDirectoriesThenByPlaces() {
+        writes(Promise09RestartTest::inode9OfKind0InFiveEntries, Volume::restart, 5,
+            write(Words.place(0, 7), 0), write(Words.place(1, 0), 0), write(Words.place(1, 6), 0),
+            write(Words.place(2, 1), 0), write(Words.place(2, 7), 0));
+    }
+
+    private static Volume inode9OfKind0InFiveEntries() {
+        Volume v = Volumes.twoDirectories();
+        v.lay(Words.place(2, 7), 901);
+        v.lay(Words.place(2, 1), 902);
+        v.lay(Words.place(1, 6), 903);
+        v.lay(Words.place(1, 0), 904);
+        v.lay(Words.place(0, 7), 905);
+        return v;
+    }
+
+    static void kind0_thePlacesOfFilesAndOfNoneAreNoEntries() {
+        keeps("restart", Promise09RestartTest::placesThatLookLikeEntries, Volume::restart, 0);
+    }
+
+    /** FILE 1 and INODE 9 of KIND 0 have PLACES that would be ENTRIES of 9 and 2 in a DIRECTORY. */
+    private static Volume placesThatLookLikeEntries() {
+        Volume v = Volumes.twoFiles();
+        v.lay(Words.place(1, 5), 950);
+        v.lay(Words.place(9, 0), 950);
+        v.lay(Words.place(9, 1), 202);
+        return v;
+    }
+
     // "3 INODES, by numbers, but THE ROOT, that are of no KIND 0 and stand in no ENTRY: KIND 0"
 
     static void nowhere_aFileThatRemoveLeft() {
@@ -205,6 +260,31 @@ public final class Promise09RestartTest extends TestKit {
         return v;
     }
 
+    static void nowhere_several_byNumbers() {
+        writes(Promise09RestartTest::inodes3And7And11Nowhere, Volume::restart, 3,
+            write(Words.kind(3), 0), write(Words.kind(7), 0), write(Words.kind(11), 0));
+    }
+
+    private static Volume inodes3And7And11Nowhere() {
+        Volume v = Volumes.twoFiles();
+        v.lay(Words.kind(11), 1);
+        v.lay(Words.kind(3), 1);
+        v.lay(Words.kind(7), 2);
+        return v;
+    }
+
+    static void nowhere_butInThePlacesOfAFileOrOfNone() {
+        writes(Promise09RestartTest::inode3InPlacesThatAreNoEntries, Volume::restart, 1, write(Words.kind(3), 0));
+    }
+
+    private static Volume inode3InPlacesThatAreNoEntries() {
+        Volume v = placesThatLookLikeEntries();
+        v.lay(Words.kind(3), 2);
+        v.lay(Words.place(2, 6), 350);
+        v.lay(Words.place(9, 2), 350);
+        return v;
+    }
+
     static void nowhere_isNotForTheRoot() {
         Volume v = Volumes.down(Volumes.empty());
         due("restart", v.restart(), 0);
@@ -220,6 +300,58 @@ public final class Promise09RestartTest extends TestKit {
             due("restart, behind " + n, v.restart(), 0);
             due("only DOWN has changed", v.digest(), digest - 1);
         }
+    }
+
+    // "1 THE RECORD .. 2 ENTRIES .. 3 INODES": in this order
+
+    static void order_recordThenEntriesThenInodes() {
+        writes(Promise09RestartTest::allThreeToMend, Volume::restart, 5,
+            write(Words.place(2, 0), 39), write(Words.record(0), 0),
+            write(Words.place(0, 3), 0), write(Words.place(0, 6), 0), write(Words.kind(5), 0));
+    }
+
+    /** A MOVE in STATE 2, an ENTRY of FILE 1 too many, one of INODE 9 of KIND 0, and FILE 5 in none. */
+    private static Volume allThreeToMend() {
+        Volume v = cutStep(8);
+        v.lay(Words.place(0, 3), 950);
+        v.lay(Words.place(0, 6), 160);
+        v.lay(Words.kind(5), 2);
+        return v;
+    }
+
+    // "and this again, from 2 on, till nothing is WRITTEN in a round"
+
+    static void again_whatStoodInADirectoryThatStoodNowhere() {
+        writes(Promise09RestartTest::file1InDirectory2InNone, Volume::restart, 2,
+            write(Words.kind(2), 0), write(Words.kind(1), 0));
+    }
+
+    private static Volume file1InDirectory2InNone() {
+        Volume v = new Volume();
+        v.make(0, 1, 2);
+        v.make(0, 2, 1);
+        v.rename(0, 1, 2, 1);
+        v.lay(Words.place(0, 1), 0);
+        return v;
+    }
+
+    static void again_elevenRounds() {
+        long[][] due = new long[11][];
+        for (int n = 0; n < 11; n++) {
+            due[n] = write(Words.kind(11 - n), 0);
+        }
+        writes(Promise09RestartTest::elevenInOneAnother, Volume::restart, 11, due);
+    }
+
+    /** DIRECTORIES 11 .. 1, each in the one before it, and 11 in none. */
+    private static Volume elevenInOneAnother() {
+        Volume v = new Volume();
+        for (int d = 11; d >= 1; d--) {
+            v.lay(Words.kind(d), 1);
+            v.lay(Words.place(d, 7), 100 * (d - 1) + 50);
+        }
+        v.lay(Words.place(1, 7), 0);
+        return v;
     }
 
     // "DOWN: POWER failed in it"

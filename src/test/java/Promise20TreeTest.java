@@ -158,6 +158,23 @@ public final class Promise20TreeTest extends TestKit {
         due("mended", v.tree(), over(1, 1, 1, 9, 2, 1, 5, 2, 1, 1, 2, 3, 9, 9));
     }
 
+    static void firstTime_directoriesThatStandInOneAnother() {
+        Volume v = Volumes.twoDirectories();
+        v.rename(0, 2, 1, 7);
+        v.lay(Words.place(2, 1), 103);
+        v.lay(Words.place(2, 2), 204);
+        due("tree", v.tree(), over(1, 1, 1, 7, 1, 5, 2, 1, 1, 2, 3, 9, 9, 9));
+    }
+
+    static void kind0_anEntryOfItDoesNotCount() {
+        Volume v = Volumes.twoFiles();
+        v.lay(Words.kind(1), 0);
+        due("the first", v.tree(), over(1, 2, 2, 1, 4, 5, 6, 9));
+        Volume w = Volumes.twoDirectories();
+        w.lay(Words.kind(3), 0);
+        due("the only one", w.tree(), over(1, 1, 1, 9, 2, 1, 9, 9));
+    }
+
     static void whatStandsInNoEntryIsNotInIt() {
         Volume v = Volumes.twoFiles();
         v.cut(1);

@@ -1,3 +1,5 @@
+import java.lang.reflect.Field;
+
 /** A BlockMover that is called 512 times at most: what it answers beyond them is not promised. */
 final class Volume {
     static final int MOST_CALLS = 512;
@@ -117,6 +119,25 @@ final class Volume {
         int n = cut(NONE);
         cut(n);
         return n;
+    }
+
+    /**
+     * Lays a word, in digest()'s order, where no call would: acts and restarts never leave some of the
+     * states that the document tells of, and its sentences on them are promises all the same.
+     */
+    void lay(int word, long value) {
+        try {
+            Object disk = field(x, "disk");
+            ((long[]) field(disk, "words"))[word] = value;
+        } catch (ReflectiveOperationException e) {
+            throw new IllegalStateException("the words are held in another way now", e);
+        }
+    }
+
+    private static Object field(Object holder, String name) throws ReflectiveOperationException {
+        Field found = holder.getClass().getDeclaredField(name);
+        found.setAccessible(true);
+        return found.get(holder);
     }
 
     /** All that can be told of it in few calls: the same text twice if nothing has changed. */
