@@ -87,7 +87,7 @@ public final class BlockMover {
         }
         disk.write(inodeAt(i, KIND), kind);
         disk.write(placeAt(directory, entry), entryOf(i, name));
-        return answerOfAct(i);
+        return answerOrDown(i);
     }
 
     public int append(int file, long a, long b, long c) {
@@ -107,7 +107,7 @@ public final class BlockMover {
         disk.write(dataAt(block, 2), c);
         disk.write(placeAt(file, size), block);
         disk.write(inodeAt(file, SIZE), size + 1);
-        return answerOfAct(size + 1);
+        return answerOrDown(size + 1);
     }
 
     public int put(int file, int p, int k, long v) {
@@ -118,7 +118,7 @@ public final class BlockMover {
             return DOWN;
         }
         disk.write(dataAt(placeOf(file, p), k), v);
-        return answerOfAct(1);
+        return answerOrDown(1);
     }
 
     public int remove(int directory, int name) {
@@ -138,7 +138,7 @@ public final class BlockMover {
         }
         disk.write(placeAt(directory, entry), 0);
         disk.write(inodeAt(i, KIND), 0);
-        return answerOfAct(i);
+        return answerOrDown(i);
     }
 
     public int rename(int directory, int name, int to, int other) {
@@ -165,7 +165,7 @@ public final class BlockMover {
         }
         disk.write(placeAt(to, entry), entryOf(i, other));
         disk.write(placeAt(directory, from), 0);
-        return answerOfAct(i);
+        return answerOrDown(i);
     }
 
     public int step() {
@@ -185,12 +185,13 @@ public final class BlockMover {
         disk.write(recordAt(RECORD_STATE), STATE_COPYING);
         copyMovedBlock();
         linkMovedBlock();
-        return answerOfAct(1);
+        return answerOrDown(1);
     }
 
     public int restart() {
         int before = disk.writes;
-        disk.beginRestart();
+        // Nothing is written while the disk is down; a failure in the restart makes it so again.
+        disk.down = false;
         finishRecordedMove();
         for (int round = 0; round < MOST_ROUNDS; round++) {
             int atStart = disk.writes;
@@ -200,11 +201,7 @@ public final class BlockMover {
                 break;
             }
         }
-        if (disk.failed) {
-            return DOWN;
-        }
-        disk.down = false;
-        return disk.writes - before;
+        return answerOrDown(disk.writes - before);
     }
 
     // ---- what is asked ----
@@ -366,8 +363,8 @@ public final class BlockMover {
         return isOfKind(file, FILE) && isBelow(p, sizeOf(file)) && isBelow(k, DATA);
     }
 
-    private int answerOfAct(int answer) {
-        return disk.failed ? DOWN : answer;
+    private int answerOrDown(int answer) {
+        return disk.down ? DOWN : answer;
     }
 
     // ---- directories ----
@@ -543,7 +540,7 @@ public final class BlockMover {
     private void linkMovedBlock() {
         disk.write(placeAt(recorded(RECORD_INODE), recorded(RECORD_PLACE)), recorded(RECORD_BLOCK));
         disk.write(recordAt(RECORD_STATE), STATE_NONE);
-        if (!disk.failed) {
+        if (!disk.down) {
             movesDone++;
         }
     }
@@ -683,7 +680,6 @@ public final class BlockMover {
         int left;
         int writes;
         boolean down;
-        boolean failed;
 
         Disk() {
             words = new long[WORDS];
@@ -695,17 +691,11 @@ public final class BlockMover {
             return at >= 0 && at < words.length ? words[at] : 0;
         }
 
-        /** A restart is begun while the disk is down, so a failure in it is told apart from the one before. */
-        void beginRestart() {
-            failed = false;
-        }
-
         void write(int at, long value) {
-            if (failed || at < 0 || at >= words.length) {
+            if (down || at < 0 || at >= words.length) {
                 return;
             }
             if (left == 0) {
-                failed = true;
                 down = true;
                 left = NONE;
                 return;

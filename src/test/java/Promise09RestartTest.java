@@ -124,6 +124,38 @@ public final class Promise09RestartTest extends TestKit {
             write(Words.place(1, 7), 0));
     }
 
+    static void double_inInode11TheLastDirectory() {
+        writes(() -> cutRename(file10BesideDirectory11(), 1, 10, 11, 99), Volume::restart, 1,
+            write(Words.place(11, 0), 0));
+        writes(() -> cutRename(renamed(file10BesideDirectory11(), 1, 10, 11, 10), 11, 10, 1, 10),
+            Volume::restart, 1, write(Words.place(11, 0), 0));
+        writes(() -> cutRename(renamed(file10BesideDirectory11(), 1, 10, 11, 10), 11, 10, 11, 9),
+            Volume::restart, 1, write(Words.place(11, 1), 0));
+    }
+
+    /** All INODES, with DIRECTORY 11 beside FILE 10, both in DIRECTORY 1. */
+    private static Volume file10BesideDirectory11() {
+        Volume v = Volumes.noInode();
+        v.remove(1, 11);
+        v.make(1, 11, 1);
+        return v;
+    }
+
+    private static Volume renamed(Volume v, int directory, int name, int to, int other) {
+        v.rename(directory, name, to, other);
+        return v;
+    }
+
+    static void double_anEntryOfTheRootIsNone() {
+        keeps("restart", Promise09RestartTest::theRootInDirectory1, Volume::restart, 0);
+    }
+
+    private static Volume theRootInDirectory1() {
+        Volume v = Volumes.twoDirectories();
+        v.lay(Words.place(1, 0), 50);
+        return v;
+    }
+
     private static Volume without2() {
         Volume v = Volumes.fullDirectory();
         v.remove(1, 2);

@@ -160,6 +160,17 @@ public final class Promise19CountTest extends TestKit {
         due("all 32 are eight too far", v.count(4), 32);
     }
 
+    static void what_4_ofInode11TheLast() {
+        Volume v = Volumes.noInode();
+        v.append(11, 0, 0, 0);
+        due("in place", v.count(4), 0);
+        v.append(11, 0, 0, 0);
+        v.append(2, 0, 0, 0);
+        due("0, 3, 1, 2", v.count(4), 3);
+        v.remove(0, 2);
+        due("1, 2", v.count(4), 2);
+    }
+
     static void what_4_behindOneThatIsWrongOthersMayBeRight() {
         Volume v = Volumes.twoFiles();
         v.append(2, 0, 0, 0);

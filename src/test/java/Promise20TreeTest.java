@@ -166,6 +166,13 @@ public final class Promise20TreeTest extends TestKit {
         due("tree", v.tree(), over(1, 1, 1, 7, 1, 5, 2, 1, 1, 2, 3, 9, 9, 9));
     }
 
+    static void firstTime_theRootIsComeToFirst() {
+        Volume v = Volumes.twoDirectories();
+        long tree = v.tree();
+        v.lay(Words.place(1, 0), 50);
+        due("tree", v.tree(), tree);
+    }
+
     static void kind0_anEntryOfItDoesNotCount() {
         Volume v = Volumes.twoFiles();
         v.lay(Words.kind(1), 0);
