@@ -91,6 +91,20 @@ public final class Promise20TreeTest extends TestKit {
         due("tree", v.tree(), over(1, 4, 1, 20, 1, 9, 30, 2, 0, 9, 9, 2, 0, 9));
     }
 
+    static void byNames_inDirectoriesWhoseNumbersAreNotTheirDepth() {
+        Volume v = new Volume();
+        v.make(0, 60, 1);
+        v.make(0, 40, 1);
+        v.make(2, 9, 2);
+        v.make(2, 8, 1);
+        v.make(4, 7, 2);
+        v.make(4, 3, 2);
+        v.make(1, 5, 2);
+        v.make(1, 2, 2);
+        due("tree", v.tree(), over(1, 40, 1, 8, 1, 3, 2, 0, 7, 2, 0, 9, 9, 2, 0, 9,
+            60, 1, 2, 2, 0, 5, 2, 0, 9, 9));
+    }
+
     static void aNameIsPartOfIt() {
         Volume v = Volumes.twoFiles();
         v.rename(0, 2, 0, 3);
